@@ -414,7 +414,9 @@ public final class PromisesTest {
         drill(x, 5, true, 10);
         drill(x, 6, true, 3);
         x.use(50, 20);
+        x.use(90, 30);
         x.spring(1, 8000, 9000);
+        x.spring(2, 50000, 0);
         x.tracer(0, 90000);
         return x;
     }
@@ -493,6 +495,12 @@ public final class PromisesTest {
         x.pass(1);
         due("more tracer found", 190, x.ofWell(0, 5));
         due("the first month stays", 3, x.ofWell(0, 6));
+        Steamfield least = still(10000, 300);
+        least.tracer(5, 10);
+        drill(least, 5, false, 1000);
+        least.pass(1);
+        due("a tenth of 10 is found", 1, least.ofWell(0, 5));
+        due("in the first month", 1, least.ofWell(0, 6));
         due("a well drilled now", 2, x.well(5, false));
         due("drew nothing yet", 0, x.ofWell(2, 3));
         for (int well : new int[] {-1, 10, FAR_DOWN, FAR_UP}) {
@@ -840,6 +848,19 @@ public final class PromisesTest {
             long missing = Math.max(300 - heat / 31500, 0);
             due("given back of " + left + " degrees", heat + 50 * missing, x.ofBlock(0, 2));
         }
+        Steamfield hot = still(10000, 300);
+        drill(hot, 5, false, 1000);
+        hot.use(100, 50);
+        hot.use(51, 50);
+        hot.use(50, 50);
+        hot.pass(1);
+        due("brine has 100 degrees at most, and loses 50 twice", 500 * 50 * 2, hot.sum(5));
+        Steamfield drop = cold(1);
+        drop.use(51, 50);
+        drop.use(50, 49);
+        drop.use(1, 50);
+        drop.pass(1);
+        due("of a drop of 50 degrees 49 and 1 are sold", 50, drop.sum(5));
         Steamfield none = still(10000, 300);
         none.use(0, 1);
         none.pass(3);
@@ -858,6 +879,14 @@ public final class PromisesTest {
         due("what is left", 1, x.sum(2));
         due("water", 50333, x.ofBlock(8, 0));
         due("strain", 333 - 33, x.ofBlock(8, 4));
+        Steamfield first = still(50000, 50);
+        drill(first, 0, true, 1);
+        drill(first, 5, false, 1000);
+        first.pass(1);
+        due("the well 0 returns what a later one draws", 1000, first.ofWell(0, 3));
+        due("none is left", 0, first.sum(2));
+        due("the block 0 takes it", 51000, first.ofBlock(0, 0));
+        due("strain of the block 0", 900, first.ofBlock(0, 4));
         Steamfield weightless = cold(1000);
         weightless.well(8, true);
         weightless.pass(1);
@@ -980,6 +1009,14 @@ public final class PromisesTest {
             due("heat left", 300L * (row[0] + 20000 - row[1]), x.ofBlock(5, 2));
             due("tracer left", row[0] == 0 ? 0 : 1000 - 1000 * row[1] / row[0], x.ofBlock(5, 3));
         }
+        Steamfield rises = still(10000, 300);
+        rises.rain(500);
+        rises.spring(8, 10600, 0);
+        rises.pass(1);
+        due("below its level", 1, rises.ofSpring(0, 3));
+        rises.pass(1);
+        due("above its level", 50, rises.ofSpring(0, 1));
+        due("not dry any more", 0, rises.ofSpring(0, 3));
         Steamfield two = still(10000, 300);
         two.spring(5, 9951, 0);
         two.spring(5, 9951, 0);

@@ -297,9 +297,10 @@ public final class Steamfield {
             return all;
         }
 
-        // Water is never below 0, so the divisor is never below the rock.
+        // Water is never below 0, so there is always the rock at least; a divisor is tested all the same.
         long degrees(int b) {
-            return heat[b] / (water[b] + ROCK);
+            long both = water[b] + ROCK;
+            return both > 0 ? heat[b] / both : 0;
         }
 
         int light(int b) {
@@ -347,10 +348,9 @@ public final class Steamfield {
             }
         }
 
-        // Ahead of it the one has more water than the other, so some: it may divide.
         private void flow(int from, int to, int width) {
             long much = (waterAhead[from] - waterAhead[to]) * width / 1000;
-            long carried = tracerAhead[from] * much / waterAhead[from];
+            long carried = waterAhead[from] > 0 ? tracerAhead[from] * much / waterAhead[from] : 0;
             water[from] -= much;
             heat[from] -= much * degreesAhead[from];
             tracer[from] -= carried;

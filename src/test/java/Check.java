@@ -39,11 +39,14 @@ final class Check {
         }
     }
 
-    /** The call must throw exactly this, and leave its object as a twin that was not called. */
+    /** The call must throw exactly this, and leave its object as a twin that was not called, then and later. */
     static void refused(String what, String exception, Made made, Call call) {
         Steamfield called = made.fresh();
         same(what, "throws " + exception, outcome(called, call));
         same(what + ", what it left", Answers.all(made.fresh()), Answers.all(called));
+        Steamfield calledToo = made.fresh();
+        outcome(calledToo, call);
+        same(what + ", what later calls answer", Answers.later(made.fresh()), Answers.later(calledToo));
     }
 
     static String outcome(Steamfield x, Call call) {

@@ -14,67 +14,6 @@ public final class PromisesTest {
         Check.refused(what, exception, made, call);
     }
 
-    private static Steamfield fresh() {
-        return new Steamfield();
-    }
-
-    private static void closeCracks(Steamfield x) {
-        for (int block = 0; block < 12; block++) {
-            if (block % 4 != 3) {
-                x.crack(block, block + 1, 0);
-            }
-            if (block < 8) {
-                x.crack(block, block + 4, 0);
-            }
-        }
-    }
-
-    /** Nothing flows; at 300 degrees nothing warms either. */
-    private static Steamfield still(int water, int degrees) {
-        Steamfield x = new Steamfield();
-        for (int block = 0; block < 12; block++) {
-            x.block(block, water, degrees);
-        }
-        closeCracks(x);
-        return x;
-    }
-
-    private static int drill(Steamfield x, int block, boolean isReturn, int much) {
-        int well = x.well(block, isReturn);
-        x.open(well, much);
-        return well;
-    }
-
-    /** Blocks of cold water, from which wells give as much brine as their openings: so much each, none above 1000. */
-    private static Steamfield cold(int... openings) {
-        Steamfield x = still(50000, 50);
-        for (int k = 0; k < openings.length; k++) {
-            drill(x, k, false, openings[k]);
-        }
-        return x;
-    }
-
-    private static Steamfield full() {
-        Steamfield x = new Steamfield();
-        for (int k = 0; k < 10; k++) {
-            drill(x, k, k >= 5, 3);
-        }
-        for (int k = 0; k < 6; k++) {
-            x.use(10 * k, 1);
-        }
-        for (int k = 0; k < 4; k++) {
-            x.spring(k, 9000, 100);
-        }
-        x.rain(7);
-        return x;
-    }
-
-    private static Steamfield fullLater() {
-        Steamfield x = full();
-        x.pass(3);
-        return x;
-    }
-
     private static void constants() {
         due("NONE", -1, Steamfield.NONE);
         due("GREEN", 0, Steamfield.GREEN);
@@ -101,9 +40,9 @@ public final class PromisesTest {
         due("new: rain", 0, x.rain(0));
         due("new: crack beside", 20, x.crack(0, 1, 20));
         due("new: crack below", 20, x.crack(7, 11, 20));
-        refused("new: ofWell", INDEX, PromisesTest::fresh, y -> y.ofWell(0, 0));
-        refused("new: ofSpring", INDEX, PromisesTest::fresh, y -> y.ofSpring(0, 0));
-        refused("new: quake", INDEX, PromisesTest::fresh, y -> y.quake(0, 0));
+        refused("new: ofWell", INDEX, Setups::fresh, y -> y.ofWell(0, 0));
+        refused("new: ofSpring", INDEX, Setups::fresh, y -> y.ofSpring(0, 0));
+        refused("new: quake", INDEX, Setups::fresh, y -> y.quake(0, 0));
         Steamfield two = new Steamfield();
         two.rain(500);
         two.pass(1);
@@ -126,17 +65,17 @@ public final class PromisesTest {
         due("block: the one beside it stays", 10000, x.ofBlock(2, 0));
         due("block 11", 10000, x.block(11, 5, 5));
         for (int block : new int[] {-1, 12, FAR_DOWN, FAR_UP}) {
-            refused("block " + block, INDEX, PromisesTest::fresh, y -> y.block(block, 1, 1));
-            refused("block " + block + ", all wrong", INDEX, PromisesTest::fullLater, y -> y.block(block, -1, -1));
+            refused("block " + block, INDEX, Setups::fresh, y -> y.block(block, 1, 1));
+            refused("block " + block + ", all wrong", INDEX, Setups::fullLater, y -> y.block(block, -1, -1));
         }
         for (int water : new int[] {-1, 50001, FAR_DOWN, FAR_UP}) {
-            refused("block water " + water, ARGUMENT, PromisesTest::fresh, y -> y.block(0, water, 1));
+            refused("block water " + water, ARGUMENT, Setups::fresh, y -> y.block(0, water, 1));
         }
         for (int degrees : new int[] {-1, 351, FAR_DOWN, FAR_UP}) {
-            refused("block degrees " + degrees, ARGUMENT, PromisesTest::fresh, y -> y.block(0, 1, degrees));
+            refused("block degrees " + degrees, ARGUMENT, Setups::fresh, y -> y.block(0, 1, degrees));
         }
-        refused("block: range ahead of state", ARGUMENT, PromisesTest::fullLater, y -> y.block(0, 50001, 1));
-        refused("block: a month has passed", STATE, PromisesTest::fullLater, y -> y.block(0, 1, 1));
+        refused("block: range ahead of state", ARGUMENT, Setups::fullLater, y -> y.block(0, 50001, 1));
+        refused("block: a month has passed", STATE, Setups::fullLater, y -> y.block(0, 1, 1));
         x.would(24, 0, 0);
         due("block: would() passes no month", 5, x.block(11, 6, 6));
     }
@@ -151,7 +90,7 @@ public final class PromisesTest {
                 int one = a;
                 int other = b;
                 if (!besides) {
-                    refused("crack " + a + " " + b, ARGUMENT, PromisesTest::fresh, y -> y.crack(one, other, 1));
+                    refused("crack " + a + " " + b, ARGUMENT, Setups::fresh, y -> y.crack(one, other, 1));
                 } else if (a < b) {
                     cracks++;
                     due("crack: each was 20", 20, x.crack(a, b, cracks));
@@ -170,15 +109,15 @@ public final class PromisesTest {
         due("crack 100", 100, x.crack(0, 4, 0));
         due("crack 0", 0, x.crack(4, 0, 1));
         for (int block : new int[] {-1, 12, FAR_DOWN, FAR_UP}) {
-            refused("crack from " + block, INDEX, PromisesTest::fresh, y -> y.crack(block, 0, 1));
-            refused("crack to " + block, INDEX, PromisesTest::fresh, y -> y.crack(0, block, 101));
+            refused("crack from " + block, INDEX, Setups::fresh, y -> y.crack(block, 0, 1));
+            refused("crack to " + block, INDEX, Setups::fresh, y -> y.crack(0, block, 101));
         }
-        refused("crack -1 0: index ahead of range", INDEX, PromisesTest::fresh, y -> y.crack(-1, 0, -1));
-        refused("crack 11 12", INDEX, PromisesTest::fresh, y -> y.crack(11, 12, 1));
+        refused("crack -1 0: index ahead of range", INDEX, Setups::fresh, y -> y.crack(-1, 0, -1));
+        refused("crack 11 12", INDEX, Setups::fresh, y -> y.crack(11, 12, 1));
         for (int width : new int[] {-1, 101, FAR_DOWN, FAR_UP}) {
-            refused("crack width " + width, ARGUMENT, PromisesTest::fresh, y -> y.crack(0, 1, width));
+            refused("crack width " + width, ARGUMENT, Setups::fresh, y -> y.crack(0, 1, width));
         }
-        Steamfield later = fullLater();
+        Steamfield later = Setups.fullLater();
         due("crack when months have passed", 20, later.crack(1, 5, 3));
     }
 
@@ -191,7 +130,7 @@ public final class PromisesTest {
         due("rain each month in four blocks", 24, x.sum(4));
         due("rain stays", 3, x.rain(4));
         for (int much : new int[] {-1, 501, FAR_DOWN, FAR_UP}) {
-            refused("rain " + much, ARGUMENT, PromisesTest::fullLater, y -> y.rain(much));
+            refused("rain " + much, ARGUMENT, Setups::fullLater, y -> y.rain(much));
         }
     }
 
@@ -208,11 +147,11 @@ public final class PromisesTest {
             }
         }
         for (int block : new int[] {-1, 12, FAR_DOWN, FAR_UP}) {
-            refused("well in " + block, INDEX, PromisesTest::fresh, y -> y.well(block, false));
-            refused("well in " + block + " beyond 10", INDEX, PromisesTest::full, y -> y.well(block, true));
+            refused("well in " + block, INDEX, Setups::fresh, y -> y.well(block, false));
+            refused("well in " + block + " beyond 10", INDEX, Setups::full, y -> y.well(block, true));
         }
-        refused("an 11th well", STATE, PromisesTest::full, y -> y.well(0, false));
-        refused("an 11th well that returns", STATE, PromisesTest::full, y -> y.well(0, true));
+        refused("an 11th well", STATE, Setups::full, y -> y.well(0, false));
+        refused("an 11th well that returns", STATE, Setups::full, y -> y.well(0, true));
     }
 
     private static void promise6() {
@@ -228,22 +167,22 @@ public final class PromisesTest {
         due("ofWell tells the opening", 11, x.ofWell(0, 1));
         due("ofWell tells the weight", 4, x.ofWell(1, 1));
         for (int well : new int[] {-1, 10, FAR_DOWN, FAR_UP}) {
-            refused("open " + well, INDEX, PromisesTest::full, y -> y.open(well, -1));
+            refused("open " + well, INDEX, Setups::full, y -> y.open(well, -1));
         }
-        refused("open with no well", INDEX, PromisesTest::fresh, y -> y.open(0, 0));
+        refused("open with no well", INDEX, Setups::fresh, y -> y.open(0, 0));
         for (int much : new int[] {-1, 1001, FAR_DOWN, FAR_UP}) {
-            refused("opening " + much, ARGUMENT, PromisesTest::full, y -> y.open(0, much));
+            refused("opening " + much, ARGUMENT, Setups::full, y -> y.open(0, much));
         }
         for (int much : new int[] {-1, 11, 1000, FAR_DOWN, FAR_UP}) {
-            refused("weight " + much, ARGUMENT, PromisesTest::full, y -> y.open(9, much));
+            refused("weight " + much, ARGUMENT, Setups::full, y -> y.open(9, much));
         }
     }
 
     private static void promise7() {
-        Steamfield x = still(50000, 300);
-        drill(x, 0, false, 1000);
-        drill(x, 1, false, 1000);
-        drill(x, 2, true, 10);
+        Steamfield x = Setups.still(50000, 300);
+        Setups.drill(x, 0, false, 1000);
+        Setups.drill(x, 1, false, 1000);
+        Setups.drill(x, 2, true, 10);
         x.pass(1);
         due("scale of one month", 3, x.ofWell(0, 2));
         due("clean was", 3, x.clean(0));
@@ -255,10 +194,10 @@ public final class PromisesTest {
         due("a clean well draws all", 1000, x.ofWell(0, 3));
         due("a scaled well draws less", 970, x.ofWell(1, 3));
         for (int well : new int[] {-1, 10, FAR_DOWN, FAR_UP}) {
-            refused("clean " + well, INDEX, PromisesTest::fullLater, y -> y.clean(well));
+            refused("clean " + well, INDEX, Setups::fullLater, y -> y.clean(well));
         }
-        refused("clean with no well", INDEX, PromisesTest::fresh, y -> y.clean(0));
-        refused("clean of one that returns", STATE, PromisesTest::fullLater, y -> y.clean(5));
+        refused("clean with no well", INDEX, Setups::fresh, y -> y.clean(0));
+        refused("clean of one that returns", STATE, Setups::fullLater, y -> y.clean(5));
     }
 
     private static void promise8() {
@@ -269,14 +208,14 @@ public final class PromisesTest {
             due("uses", k + 1, x.count(3));
         }
         for (int least : new int[] {-1, 101, FAR_DOWN, FAR_UP}) {
-            refused("use least " + least, ARGUMENT, PromisesTest::fresh, y -> y.use(least, 1));
-            refused("a 7th use, least " + least, ARGUMENT, PromisesTest::full, y -> y.use(least, 1));
+            refused("use least " + least, ARGUMENT, Setups::fresh, y -> y.use(least, 1));
+            refused("a 7th use, least " + least, ARGUMENT, Setups::full, y -> y.use(least, 1));
         }
         for (int drop : new int[] {-1, 0, 51, FAR_DOWN, FAR_UP}) {
-            refused("use drop " + drop, ARGUMENT, PromisesTest::fresh, y -> y.use(1, drop));
-            refused("a 7th use, drop " + drop, ARGUMENT, PromisesTest::full, y -> y.use(1, drop));
+            refused("use drop " + drop, ARGUMENT, Setups::fresh, y -> y.use(1, drop));
+            refused("a 7th use, drop " + drop, ARGUMENT, Setups::full, y -> y.use(1, drop));
         }
-        refused("a 7th use", STATE, PromisesTest::full, y -> y.use(1, 1));
+        refused("a 7th use", STATE, Setups::full, y -> y.use(1, 1));
     }
 
     private static void promise9() {
@@ -291,16 +230,16 @@ public final class PromisesTest {
             }
         }
         for (int block : new int[] {-1, 12, FAR_DOWN, FAR_UP}) {
-            refused("spring in " + block, INDEX, PromisesTest::fresh, y -> y.spring(block, 1, 1));
-            refused("spring in " + block + ", all wrong", INDEX, PromisesTest::full, y -> y.spring(block, -1, -1));
+            refused("spring in " + block, INDEX, Setups::fresh, y -> y.spring(block, 1, 1));
+            refused("spring in " + block + ", all wrong", INDEX, Setups::full, y -> y.spring(block, -1, -1));
         }
         for (int mark : new int[] {-1, 50001, FAR_DOWN, FAR_UP}) {
-            refused("spring level " + mark, ARGUMENT, PromisesTest::fresh, y -> y.spring(0, mark, 1));
-            refused("spring promise " + mark, ARGUMENT, PromisesTest::fresh, y -> y.spring(0, 1, mark));
-            refused("a 5th spring, level " + mark, ARGUMENT, PromisesTest::full, y -> y.spring(0, mark, 1));
-            refused("a 5th spring, promise " + mark, ARGUMENT, PromisesTest::full, y -> y.spring(0, 1, mark));
+            refused("spring level " + mark, ARGUMENT, Setups::fresh, y -> y.spring(0, mark, 1));
+            refused("spring promise " + mark, ARGUMENT, Setups::fresh, y -> y.spring(0, 1, mark));
+            refused("a 5th spring, level " + mark, ARGUMENT, Setups::full, y -> y.spring(0, mark, 1));
+            refused("a 5th spring, promise " + mark, ARGUMENT, Setups::full, y -> y.spring(0, 1, mark));
         }
-        refused("a 5th spring", STATE, PromisesTest::full, y -> y.spring(0, 1, 1));
+        refused("a 5th spring", STATE, Setups::full, y -> y.spring(0, 1, 1));
     }
 
     private static void promise10() {
@@ -313,11 +252,11 @@ public final class PromisesTest {
         due("ofSpring tells the promise", 9, x.ofSpring(0, 2));
         due("promise leaves the others", 8, x.ofSpring(1, 2));
         for (int spring : new int[] {-1, 4, FAR_DOWN, FAR_UP}) {
-            refused("promise " + spring, INDEX, PromisesTest::full, y -> y.promise(spring, -1));
+            refused("promise " + spring, INDEX, Setups::full, y -> y.promise(spring, -1));
         }
-        refused("promise with no spring", INDEX, PromisesTest::fresh, y -> y.promise(0, 0));
+        refused("promise with no spring", INDEX, Setups::fresh, y -> y.promise(0, 0));
         for (int mark : new int[] {-1, 50001, FAR_DOWN, FAR_UP}) {
-            refused("promise of " + mark, ARGUMENT, PromisesTest::full, y -> y.promise(3, mark));
+            refused("promise of " + mark, ARGUMENT, Setups::full, y -> y.promise(3, mark));
         }
     }
 
@@ -336,13 +275,13 @@ public final class PromisesTest {
         much.pass(1);
         due("much tracer stays", 50000000, much.ofBlock(0, 3));
         for (int block : new int[] {-1, 12, FAR_DOWN, FAR_UP}) {
-            refused("tracer in " + block, INDEX, PromisesTest::fresh, y -> y.tracer(block, 0));
+            refused("tracer in " + block, INDEX, Setups::fresh, y -> y.tracer(block, 0));
         }
         for (int amount : new int[] {-1, 0, 100001, FAR_DOWN, FAR_UP}) {
-            refused("tracer of " + amount, ARGUMENT, PromisesTest::fresh, y -> y.tracer(0, amount));
-            refused("tracer of " + amount + " without water", ARGUMENT, () -> still(0, 0), y -> y.tracer(0, amount));
+            refused("tracer of " + amount, ARGUMENT, Setups::fresh, y -> y.tracer(0, amount));
+            refused("tracer of " + amount + " without water", ARGUMENT, () -> Setups.still(0, 0), y -> y.tracer(0, amount));
         }
-        refused("tracer without water", STATE, () -> still(0, 0), y -> y.tracer(0, 1));
+        refused("tracer without water", STATE, () -> Setups.still(0, 0), y -> y.tracer(0, 1));
     }
 
     private static void promise12() {
@@ -361,11 +300,11 @@ public final class PromisesTest {
         Check.same("pass: range ahead of state", "throws " + ARGUMENT, Check.outcome(x, y -> y.pass(25)));
         due("months at the end", 600, x.count(0));
         for (int months : new int[] {-1, 0, 25, FAR_DOWN, FAR_UP}) {
-            refused("pass " + months, ARGUMENT, PromisesTest::fullLater, y -> y.pass(months));
+            refused("pass " + months, ARGUMENT, Setups::fullLater, y -> y.pass(months));
         }
-        refused("pass beyond 600, from 599", STATE, PromisesTest::nearTheEnd, y -> y.pass(2));
-        Steamfield once = full();
-        Steamfield slowly = full();
+        refused("pass beyond 600, from 599", STATE, Setups::nearTheEnd, y -> y.pass(2));
+        Steamfield once = Setups.full();
+        Steamfield slowly = Setups.full();
         once.pass(12);
         for (int k = 0; k < 12; k++) {
             slowly.pass(1);
@@ -373,18 +312,9 @@ public final class PromisesTest {
         Check.same("12 months at once, or one by one", Answers.all(once), Answers.all(slowly));
     }
 
-    private static Steamfield nearTheEnd() {
-        Steamfield x = full();
-        for (int k = 0; k < 24; k++) {
-            x.pass(24);
-        }
-        x.pass(23);
-        return x;
-    }
-
     private static void promise13() {
-        Steamfield x = cold(1000, 500);
-        drill(x, 5, true, 1);
+        Steamfield x = Setups.cold(1000, 500);
+        Setups.drill(x, 5, true, 1);
         x.tracer(5, 9);
         x.pass(1);
         // 1500 of 50 degrees are given back: 1350 of strain are left, and 250 of 300 degrees are missing.
@@ -395,37 +325,18 @@ public final class PromisesTest {
         due("ofBlock strain", 1350, x.ofBlock(5, 4));
         due("ofBlock light", Steamfield.AMBER, x.ofBlock(5, 5));
         for (int block : new int[] {-1, 12, FAR_DOWN, FAR_UP}) {
-            refused("ofBlock " + block, INDEX, PromisesTest::fullLater, y -> y.ofBlock(block, -1));
+            refused("ofBlock " + block, INDEX, Setups::fullLater, y -> y.ofBlock(block, -1));
         }
         for (int what : new int[] {-1, 6, FAR_DOWN, FAR_UP}) {
-            refused("ofBlock what " + what, ARGUMENT, PromisesTest::fullLater, y -> y.ofBlock(0, what));
+            refused("ofBlock what " + what, ARGUMENT, Setups::fullLater, y -> y.ofBlock(0, what));
         }
-    }
-
-    private static Steamfield busy() {
-        Steamfield x = new Steamfield();
-        x.block(0, 30000, 340);
-        x.block(7, 500, 40);
-        x.crack(0, 1, 90);
-        x.rain(300);
-        drill(x, 0, false, 900);
-        drill(x, 1, false, 800);
-        drill(x, 10, false, 1000);
-        drill(x, 5, true, 10);
-        drill(x, 6, true, 3);
-        x.use(50, 20);
-        x.use(90, 30);
-        x.spring(1, 8000, 9000);
-        x.spring(2, 50000, 0);
-        x.tracer(0, 90000);
-        return x;
     }
 
     private static void promise14() {
-        Steamfield x = busy();
-        String before = Answers.all(busy());
+        Steamfield x = Setups.busy();
+        String before = Answers.all(Setups.busy());
         for (int months = 0; months <= 24; months++) {
-            Steamfield ahead = busy();
+            Steamfield ahead = Setups.busy();
             for (int m = 0; m < months; m++) {
                 ahead.pass(1);
             }
@@ -435,7 +346,7 @@ public final class PromisesTest {
             }
         }
         Check.same("would changes nothing", before, Answers.all(x));
-        x = busy();
+        x = Setups.busy();
         x.would(24, 0, 0);
         x.pass(5);
         long water = x.would(7, 1, 0);
@@ -447,18 +358,18 @@ public final class PromisesTest {
         due("would comes true", water, x.ofBlock(1, 0));
         wouldBeyondTheEnd();
         for (int block : new int[] {-1, 12, FAR_DOWN, FAR_UP}) {
-            refused("would of " + block, INDEX, PromisesTest::full, y -> y.would(-1, block, -1));
+            refused("would of " + block, INDEX, Setups::full, y -> y.would(-1, block, -1));
         }
         for (int months : new int[] {-1, 25, FAR_DOWN, FAR_UP}) {
-            refused("would in " + months, ARGUMENT, PromisesTest::full, y -> y.would(months, 0, 0));
+            refused("would in " + months, ARGUMENT, Setups::full, y -> y.would(months, 0, 0));
         }
         for (int what : new int[] {-1, 6, FAR_DOWN, FAR_UP}) {
-            refused("would what " + what, ARGUMENT, PromisesTest::full, y -> y.would(0, 0, what));
+            refused("would what " + what, ARGUMENT, Setups::full, y -> y.would(0, 0, what));
         }
     }
 
     private static void wouldBeyondTheEnd() {
-        Steamfield x = still(0, 300);
+        Steamfield x = Setups.still(0, 300);
         x.rain(10);
         for (int k = 0; k < 25; k++) {
             x.pass(24);
@@ -472,9 +383,9 @@ public final class PromisesTest {
     }
 
     private static void promise15() {
-        Steamfield x = still(10000, 300);
-        drill(x, 5, false, 1000);
-        drill(x, 6, true, 10);
+        Steamfield x = Setups.still(10000, 300);
+        Setups.drill(x, 5, false, 1000);
+        Setups.drill(x, 6, true, 10);
         x.pass(1);
         long[] drawing = {5, 1000, 3, 1000, 0, 0, Steamfield.NONE};
         long[] returning = {6, 10, 0, 500, 0, 0, Steamfield.NONE};
@@ -495,24 +406,24 @@ public final class PromisesTest {
         x.pass(1);
         due("more tracer found", 190, x.ofWell(0, 5));
         due("the first month stays", 3, x.ofWell(0, 6));
-        Steamfield least = still(10000, 300);
+        Steamfield least = Setups.still(10000, 300);
         least.tracer(5, 10);
-        drill(least, 5, false, 1000);
+        Setups.drill(least, 5, false, 1000);
         least.pass(1);
         due("a tenth of 10 is found", 1, least.ofWell(0, 5));
         due("in the first month", 1, least.ofWell(0, 6));
         due("a well drilled now", 2, x.well(5, false));
         due("drew nothing yet", 0, x.ofWell(2, 3));
         for (int well : new int[] {-1, 10, FAR_DOWN, FAR_UP}) {
-            refused("ofWell " + well, INDEX, PromisesTest::fullLater, y -> y.ofWell(well, -1));
+            refused("ofWell " + well, INDEX, Setups::fullLater, y -> y.ofWell(well, -1));
         }
         for (int what : new int[] {-1, 7, FAR_DOWN, FAR_UP}) {
-            refused("ofWell what " + what, ARGUMENT, PromisesTest::fullLater, y -> y.ofWell(0, what));
+            refused("ofWell what " + what, ARGUMENT, Setups::fullLater, y -> y.ofWell(0, what));
         }
     }
 
     private static void promise16() {
-        Steamfield x = still(10000, 300);
+        Steamfield x = Setups.still(10000, 300);
         x.spring(5, 9950, 0);
         x.pass(1);
         long[] gives = {5, 50, 0, 0, Steamfield.NONE};
@@ -528,10 +439,10 @@ public final class PromisesTest {
         due("dry for 25 months", 25, x.ofSpring(0, 3));
         due("dry, and none to blame", Steamfield.NONE, x.ofSpring(0, 4));
         for (int spring : new int[] {-1, 4, FAR_DOWN, FAR_UP}) {
-            refused("ofSpring " + spring, INDEX, PromisesTest::fullLater, y -> y.ofSpring(spring, -1));
+            refused("ofSpring " + spring, INDEX, Setups::fullLater, y -> y.ofSpring(spring, -1));
         }
         for (int what : new int[] {-1, 5, FAR_DOWN, FAR_UP}) {
-            refused("ofSpring what " + what, ARGUMENT, PromisesTest::fullLater, y -> y.ofSpring(0, what));
+            refused("ofSpring what " + what, ARGUMENT, Setups::fullLater, y -> y.ofSpring(0, what));
         }
         accountsNear();
         blame();
@@ -540,9 +451,9 @@ public final class PromisesTest {
     private static void accountsNear() {
         for (int block = 0; block < 12; block++) {
             for (int place = 0; place < 12; place++) {
-                Steamfield x = still(10000, 300);
+                Steamfield x = Setups.still(10000, 300);
                 x.spring(place, 50000, 0);
-                drill(x, block, false, 7);
+                Setups.drill(x, block, false, 7);
                 x.pass(1);
                 boolean near = Math.abs(block / 4 - place / 4) + Math.abs(block % 4 - place % 4) <= 1;
                 due("well in " + block + ", spring in " + place, near ? 0 : Steamfield.NONE, x.ofSpring(0, 4));
@@ -551,7 +462,7 @@ public final class PromisesTest {
     }
 
     private static void blame() {
-        Steamfield x = still(10000, 300);
+        Steamfield x = Setups.still(10000, 300);
         x.spring(5, 50000, 0);
         x.spring(5, 0, 0);
         for (int k = 0; k < 4; k++) {
@@ -567,10 +478,10 @@ public final class PromisesTest {
         x.pass(1);
         due("the greatest is now another", 3, x.ofSpring(0, 4));
         due("one that gives blames none", Steamfield.NONE, x.ofSpring(1, 4));
-        Steamfield again = still(10050, 300);
+        Steamfield again = Setups.still(10050, 300);
         again.spring(6, 10001, 0);
         again.spring(6, 0, 0);
-        drill(again, 5, false, 10);
+        Setups.drill(again, 5, false, 10);
         again.pass(1);
         due("it gave, and all accounts are 0", Steamfield.NONE, again.ofSpring(0, 4));
         again.open(0, 0);
@@ -583,12 +494,12 @@ public final class PromisesTest {
     }
 
     private static void promise17() {
-        Steamfield x = cold(1000, 1000, 1000, 1000);
-        drill(x, 9, true, 1);
-        drill(x, 4, true, 1);
+        Steamfield x = Setups.cold(1000, 1000, 1000, 1000);
+        Setups.drill(x, 9, true, 1);
+        Setups.drill(x, 4, true, 1);
         x.pass(1);
         due("2000 each are no quake", 0, x.count(4));
-        Steamfield y = twoQuakes();
+        Steamfield y = Setups.twoQuakes();
         due("quakes", 2, y.count(4));
         int[][] want = {{1, 4, 4}, {1, 9, 4}};
         for (int quake = 0; quake < 2; quake++) {
@@ -596,29 +507,21 @@ public final class PromisesTest {
                 due("quake " + quake + " " + what, want[quake][what], y.quake(quake, what));
             }
         }
-        refused("quake 2 of 2", INDEX, PromisesTest::twoQuakes, z -> z.quake(2, 0));
+        refused("quake 2 of 2", INDEX, Setups::twoQuakes, z -> z.quake(2, 0));
         for (int quake : new int[] {-1, 60, FAR_DOWN, FAR_UP}) {
-            refused("quake " + quake, INDEX, PromisesTest::twoQuakes, z -> z.quake(quake, 3));
+            refused("quake " + quake, INDEX, Setups::twoQuakes, z -> z.quake(quake, 3));
         }
         for (int what : new int[] {-1, 3, FAR_DOWN, FAR_UP}) {
-            refused("quake what " + what, ARGUMENT, PromisesTest::twoQuakes, z -> z.quake(1, what));
+            refused("quake what " + what, ARGUMENT, Setups::twoQuakes, z -> z.quake(1, what));
         }
         manyQuakes();
     }
 
-    private static Steamfield twoQuakes() {
-        Steamfield x = cold(1000, 1000, 1000, 1000, 1000, 1000, 1000, 1000);
-        drill(x, 9, true, 1);
-        drill(x, 4, true, 1);
-        x.pass(1);
-        return x;
-    }
-
     /** In the first month 4000 each, then half of it each, as both are AMBER then: always above 3000. */
     private static void manyQuakes() {
-        Steamfield x = cold(1000, 1000, 1000, 1000, 1000, 1000, 1000, 1000);
-        drill(x, 9, true, 1);
-        drill(x, 4, true, 1);
+        Steamfield x = Setups.cold(1000, 1000, 1000, 1000, 1000, 1000, 1000, 1000);
+        Setups.drill(x, 9, true, 1);
+        Setups.drill(x, 4, true, 1);
         x.pass(24);
         x.pass(6);
         due("60 quakes", 60, x.count(4));
@@ -635,20 +538,20 @@ public final class PromisesTest {
     }
 
     private static void promise18() {
-        Steamfield x = fullLater();
+        Steamfield x = Setups.fullLater();
         int[] want = {3, 10, 4, 6, 0};
         for (int what = 0; what <= 4; what++) {
             due("count " + what, want[what], x.count(what));
         }
-        due("count of quakes", 2, twoQuakes().count(4));
+        due("count of quakes", 2, Setups.twoQuakes().count(4));
         for (int what : new int[] {-1, 5, FAR_DOWN, FAR_UP}) {
-            refused("count " + what, ARGUMENT, PromisesTest::fullLater, y -> y.count(what));
+            refused("count " + what, ARGUMENT, Setups::fullLater, y -> y.count(what));
         }
     }
 
     private static void promise19() {
-        Steamfield x = still(10000, 300);
-        drill(x, 5, false, 1000);
+        Steamfield x = Setups.still(10000, 300);
+        Setups.drill(x, 5, false, 1000);
         x.use(60, 30);
         x.spring(0, 0, 0);
         x.rain(25);
@@ -665,32 +568,32 @@ public final class PromisesTest {
             due("sum of two months " + what, second[what], x.sum(what));
         }
         for (int what : new int[] {-1, 8, FAR_DOWN, FAR_UP}) {
-            refused("sum " + what, ARGUMENT, PromisesTest::fullLater, y -> y.sum(what));
+            refused("sum " + what, ARGUMENT, Setups::fullLater, y -> y.sum(what));
         }
     }
 
     private static void promise20() {
-        Steamfield x = still(10000, 300);
+        Steamfield x = Setups.still(10000, 300);
         due("share of none", 0, x.share());
-        drill(x, 5, false, 1000);
+        Setups.drill(x, 5, false, 1000);
         x.pass(1);
         due("share", Float.floatToIntBits(12000f / 300000f), x.share());
         x.pass(1);
         // The second month draws 900 of 300 degrees: 450 of steam.
         due("share of two months", Float.floatToIntBits(22800f / 570000f), x.share());
-        Steamfield cold = cold(1000);
+        Steamfield cold = Setups.cold(1000);
         cold.pass(1);
         due("drawn, and no power", 50000, cold.sum(7));
         due("share of no power", 0, cold.share());
-        Steamfield icy = still(50000, 0);
-        drill(icy, 0, false, 1000);
+        Steamfield icy = Setups.still(50000, 0);
+        Setups.drill(icy, 0, false, 1000);
         icy.pass(1);
         due("drawn at 0 degrees", 0, icy.sum(7));
         due("share of nothing", 0, icy.share());
-        Steamfield least = still(10, 101);
-        drill(least, 0, false, 1);
+        Steamfield least = Setups.still(10, 101);
+        Setups.drill(least, 0, false, 1);
         least.block(1, 50000, 101);
-        drill(least, 1, false, 400);
+        Setups.drill(least, 1, false, 400);
         least.pass(1);
         // 400 times 1 divided by 400 is 1 of steam, of 41 degrees above 60: 4 of power; drawn are 401 of 101 degrees.
         due("a small share", Float.floatToIntBits(4f / 40501f), least.share());
@@ -699,8 +602,8 @@ public final class PromisesTest {
     private static void lights() {
         int[][] want = {{1110, 999, 0}, {1111, 1000, 1}, {2221, 1999, 1}, {2222, 2000, 2}, {3000, 2700, 2}};
         for (int[] row : want) {
-            Steamfield x = cold(row[0] / 4, row[0] / 4, row[0] / 4, row[0] - row[0] / 4 * 3);
-            drill(x, 11, true, 1);
+            Steamfield x = Setups.cold(row[0] / 4, row[0] / 4, row[0] / 4, row[0] - row[0] / 4 * 3);
+            Setups.drill(x, 11, true, 1);
             x.pass(1);
             due("strain of " + row[0], row[1], x.ofBlock(11, 4));
             due("light of " + row[1], row[2], x.ofBlock(11, 5));
@@ -709,8 +612,8 @@ public final class PromisesTest {
     }
 
     private static void step1Shut() {
-        Steamfield x = cold(750, 750, 750, 750);
-        drill(x, 11, true, 1);
+        Steamfield x = Setups.cold(750, 750, 750, 750);
+        Setups.drill(x, 11, true, 1);
         x.pass(1);
         due("not shut while it is GREEN", 0, x.ofWell(4, 4));
         x.pass(1);
@@ -719,13 +622,13 @@ public final class PromisesTest {
         due("all is gone to the river", 3000, x.sum(2));
         due("strain of a shut one", 2700 - 270, x.ofBlock(11, 4));
         for (int promise : new int[] {9999, 10000, 10001}) {
-            Steamfield y = still(10000, 300);
+            Steamfield y = Setups.still(10000, 300);
             y.spring(5, 50000, promise);
             int[] blocks = {5, 1, 4, 6, 9, 0, 10};
             for (int block : blocks) {
-                drill(y, block, false, 10);
+                Setups.drill(y, block, false, 10);
             }
-            drill(y, 5, true, 1);
+            Setups.drill(y, 5, true, 1);
             y.pass(1);
             for (int well = 0; well < 8; well++) {
                 int shut = promise == 10001 && well < 5 ? 1 : 0;
@@ -737,10 +640,10 @@ public final class PromisesTest {
     }
 
     private static void shutByAllAsItIsThen() {
-        Steamfield x = still(10000, 300);
+        Steamfield x = Setups.still(10000, 300);
         x.spring(5, 50000, 10000);
-        drill(x, 5, false, 100);
-        drill(x, 5, false, 100);
+        Setups.drill(x, 5, false, 100);
+        Setups.drill(x, 5, false, 100);
         x.pass(1);
         due("the first draw shuts no other in its month", 0, x.ofWell(1, 4));
         x.pass(1);
@@ -761,8 +664,8 @@ public final class PromisesTest {
             {300, 499, 249, 249 * 24, 1}, {300, 500, 250, 6000, 2}, {300, 1, 0, 0, 1}, {300, 0, 0, 0, 0}
         };
         for (int[] row : want) {
-            Steamfield x = still(10000, row[0]);
-            drill(x, 5, false, row[1]);
+            Steamfield x = Setups.still(10000, row[0]);
+            Setups.drill(x, 5, false, row[1]);
             x.pass(1);
             String what = row[1] + " of " + row[0] + " degrees: ";
             due(what + "drawn", row[1], x.ofWell(0, 3));
@@ -780,9 +683,9 @@ public final class PromisesTest {
     }
 
     private static void tenth() {
-        Steamfield x = still(9999, 300);
-        drill(x, 5, false, 1000);
-        drill(x, 5, false, 1000);
+        Steamfield x = Setups.still(9999, 300);
+        Setups.drill(x, 5, false, 1000);
+        Setups.drill(x, 5, false, 1000);
         x.tracer(5, 10000);
         x.pass(1);
         due("a tenth", 999, x.ofWell(0, 3));
@@ -790,22 +693,22 @@ public final class PromisesTest {
         due("tracer of 999 in 9999", 999, x.ofWell(0, 5));
         due("tracer of 900 in 9000", 900, x.ofWell(1, 5));
         due("tracer left", 8101, x.ofBlock(5, 3));
-        Steamfield dry = still(9, 300);
-        drill(dry, 5, false, 1000);
+        Steamfield dry = Setups.still(9, 300);
+        Setups.drill(dry, 5, false, 1000);
         dry.tracer(5, 100);
         dry.pass(1);
         due("less than ten gives none", 0, dry.ofWell(0, 3));
         due("and no scale", 0, dry.ofWell(0, 2));
         due("not shut", 0, dry.ofWell(0, 4));
-        Steamfield none = still(0, 300);
-        drill(none, 5, false, 1000);
+        Steamfield none = Setups.still(0, 300);
+        Setups.drill(none, 5, false, 1000);
         none.pass(2);
         due("no water gives none", 0, none.ofWell(0, 3));
     }
 
     private static void scaleGrows() {
-        Steamfield x = still(50000, 350);
-        drill(x, 5, false, 1000);
+        Steamfield x = Setups.still(50000, 350);
+        Setups.drill(x, 5, false, 1000);
         long[] draws = {1000, 970, 950, 930, 910};
         for (long draw : draws) {
             x.pass(1);
@@ -818,8 +721,8 @@ public final class PromisesTest {
         x.pass(1);
         due("0 of 1 is drawn", 0, x.ofWell(0, 3));
         due("and the scale stays", 1, x.ofWell(0, 2));
-        Steamfield y = still(50000, 350);
-        drill(y, 5, false, 1000);
+        Steamfield y = Setups.still(50000, 350);
+        Setups.drill(y, 5, false, 1000);
         y.rain(500);
         for (int k = 0; k < 25; k++) {
             y.pass(24);
@@ -833,11 +736,11 @@ public final class PromisesTest {
         int[][] uses = {{67, 10}, {66, 10}, {57, 1}, {56, 50}, {7, 1}, {0, 50}};
         long[] sold = {0, 15000, 15000, 90000, 90000, 99000};
         for (int most = 0; most < 6; most++) {
-            Steamfield x = still(10000, 300);
+            Steamfield x = Setups.still(10000, 300);
             x.block(5, 10000, 50);
-            drill(x, 5, false, 1000);
-            drill(x, 10, false, 1000);
-            drill(x, 0, true, 1);
+            Setups.drill(x, 5, false, 1000);
+            Setups.drill(x, 10, false, 1000);
+            Setups.drill(x, 0, true, 1);
             for (int k = 0; k <= most; k++) {
                 x.use(uses[k][0], uses[k][1]);
             }
@@ -848,30 +751,30 @@ public final class PromisesTest {
             long missing = Math.max(300 - heat / 31500, 0);
             due("given back of " + left + " degrees", heat + 50 * missing, x.ofBlock(0, 2));
         }
-        Steamfield hot = still(10000, 300);
-        drill(hot, 5, false, 1000);
+        Steamfield hot = Setups.still(10000, 300);
+        Setups.drill(hot, 5, false, 1000);
         hot.use(100, 50);
         hot.use(51, 50);
         hot.use(50, 50);
         hot.pass(1);
         due("brine has 100 degrees at most, and loses 50 twice", 500 * 50 * 2, hot.sum(5));
-        Steamfield drop = cold(1);
+        Steamfield drop = Setups.cold(1);
         drop.use(51, 50);
         drop.use(50, 49);
         drop.use(1, 50);
         drop.pass(1);
         due("of a drop of 50 degrees 49 and 1 are sold", 50, drop.sum(5));
-        Steamfield none = still(10000, 300);
+        Steamfield none = Setups.still(10000, 300);
         none.use(0, 1);
         none.pass(3);
         due("nothing sold without brine", 0, none.sum(5));
     }
 
     private static void step4Return() {
-        Steamfield x = cold(1000, 1);
-        drill(x, 8, true, 1);
-        drill(x, 9, true, 2);
-        drill(x, 10, true, 0);
+        Steamfield x = Setups.cold(1000, 1);
+        Setups.drill(x, 8, true, 1);
+        Setups.drill(x, 9, true, 2);
+        Setups.drill(x, 10, true, 0);
         x.pass(1);
         due("a third", 333, x.ofWell(2, 3));
         due("two thirds", 667, x.ofWell(3, 3));
@@ -879,15 +782,15 @@ public final class PromisesTest {
         due("what is left", 1, x.sum(2));
         due("water", 50333, x.ofBlock(8, 0));
         due("strain", 333 - 33, x.ofBlock(8, 4));
-        Steamfield first = still(50000, 50);
-        drill(first, 0, true, 1);
-        drill(first, 5, false, 1000);
+        Steamfield first = Setups.still(50000, 50);
+        Setups.drill(first, 0, true, 1);
+        Setups.drill(first, 5, false, 1000);
         first.pass(1);
         due("the well 0 returns what a later one draws", 1000, first.ofWell(0, 3));
         due("none is left", 0, first.sum(2));
         due("the block 0 takes it", 51000, first.ofBlock(0, 0));
         due("strain of the block 0", 900, first.ofBlock(0, 4));
-        Steamfield weightless = cold(1000);
+        Steamfield weightless = Setups.cold(1000);
         weightless.well(8, true);
         weightless.pass(1);
         due("weights of 0 return none", 0, weightless.ofWell(1, 3));
@@ -897,17 +800,17 @@ public final class PromisesTest {
     }
 
     private static void amber() {
-        Steamfield x = cold(1000, 1000, 1000, 1);
-        drill(x, 8, true, 1);
-        drill(x, 8, true, 1);
+        Steamfield x = Setups.cold(1000, 1000, 1000, 1);
+        Setups.drill(x, 8, true, 1);
+        Setups.drill(x, 8, true, 1);
         x.pass(1);
         due("the light ahead of what is given back", 1500, x.ofWell(4, 3));
         due("for both", 1500, x.ofWell(5, 3));
         due("what is left", 1, x.sum(2));
         due("strain of both", 2700, x.ofBlock(8, 4));
-        Steamfield y = cold(1000, 1000, 1);
-        drill(y, 8, true, 1);
-        drill(y, 9, true, 10);
+        Steamfield y = Setups.cold(1000, 1000, 1);
+        Setups.drill(y, 8, true, 1);
+        Setups.drill(y, 9, true, 10);
         y.open(4, 0);
         y.pass(1);
         due("AMBER now", Steamfield.AMBER, y.ofBlock(8, 5));
@@ -924,8 +827,8 @@ public final class PromisesTest {
     private static void step5Quakes() {
         int[][] want = {{3000, 0, 2700}, {3001, 3, 1350}, {3999, 3, 1800}, {4000, 4, 1800}, {4021, 4, 1809}};
         for (int[] row : want) {
-            Steamfield x = cold(1000, 1000, 1000, row[0] - 3000 > 1000 ? 1000 : row[0] - 3000, Math.max(row[0] - 4000, 0));
-            drill(x, 11, true, 1);
+            Steamfield x = Setups.cold(1000, 1000, 1000, row[0] - 3000 > 1000 ? 1000 : row[0] - 3000, Math.max(row[0] - 4000, 0));
+            Setups.drill(x, 11, true, 1);
             x.pass(1);
             due("quakes of " + row[0], row[1] > 0 ? 1 : 0, x.count(4));
             due("strain behind " + row[0], row[2], x.ofBlock(11, 4));
@@ -935,14 +838,14 @@ public final class PromisesTest {
                 due("its size", row[1], x.quake(0, 2));
             }
         }
-        Steamfield y = cold(9);
-        drill(y, 11, true, 1);
+        Steamfield y = Setups.cold(9);
+        Setups.drill(y, 11, true, 1);
         y.pass(1);
         due("a tenth of 9 is 0", 9, y.ofBlock(11, 4));
     }
 
     private static void step6Cracks() {
-        Steamfield x = still(10000, 300);
+        Steamfield x = Setups.still(10000, 300);
         x.block(0, 20000, 350);
         x.block(2, 15000, 310);
         x.crack(0, 1, 100);
@@ -967,7 +870,7 @@ public final class PromisesTest {
         due("5: then 125", 10125, x.ofBlock(5, 0));
         due("5: tracer then", 1010 * 125 / 11250, x.ofBlock(5, 3));
         due("all water stays", 135000, x.sum(0));
-        Steamfield up = still(10000, 300);
+        Steamfield up = Setups.still(10000, 300);
         up.block(8, 11999, 300);
         up.crack(4, 8, 1);
         up.pass(1);
@@ -976,7 +879,7 @@ public final class PromisesTest {
     }
 
     private static void step7RainAndWarmth() {
-        Steamfield x = still(10000, 300);
+        Steamfield x = Setups.still(10000, 300);
         x.rain(500);
         x.pass(1);
         for (int block = 0; block < 12; block++) {
@@ -984,7 +887,7 @@ public final class PromisesTest {
             // 9040000 divided by 30500 is 296: 4 degrees are missing behind the rain.
             due("heat of " + block, block < 8 ? 9000000 : 9040000 + 200, x.ofBlock(block, 2));
         }
-        Steamfield y = still(10000, 299);
+        Steamfield y = Setups.still(10000, 299);
         y.block(0, 0, 0);
         y.block(1, 0, 301);
         y.pass(1);
@@ -996,7 +899,7 @@ public final class PromisesTest {
     private static void step8Springs() {
         int[][] want = {{5000, 50}, {4999, 49}, {50000, 50}, {100, 1}, {99, 0}, {0, 0}};
         for (int[] row : want) {
-            Steamfield x = still(row[0], 300);
+            Steamfield x = Setups.still(row[0], 300);
             x.spring(5, 0, 0);
             if (row[0] > 0) {
                 x.tracer(5, 1000);
@@ -1009,7 +912,7 @@ public final class PromisesTest {
             due("heat left", 300L * (row[0] + 20000 - row[1]), x.ofBlock(5, 2));
             due("tracer left", row[0] == 0 ? 0 : 1000 - 1000 * row[1] / row[0], x.ofBlock(5, 3));
         }
-        Steamfield rises = still(10000, 300);
+        Steamfield rises = Setups.still(10000, 300);
         rises.rain(500);
         rises.spring(8, 10600, 0);
         rises.pass(1);
@@ -1017,7 +920,7 @@ public final class PromisesTest {
         rises.pass(1);
         due("above its level", 50, rises.ofSpring(0, 1));
         due("not dry any more", 0, rises.ofSpring(0, 3));
-        Steamfield two = still(10000, 300);
+        Steamfield two = Setups.still(10000, 300);
         two.spring(5, 9951, 0);
         two.spring(5, 9951, 0);
         two.spring(5, 9950, 0);

@@ -525,6 +525,25 @@ public final class EdgesTest {
         due("one that returns has no account", 1, alike.ofSpring(0, 4));
     }
 
+    // "each .. has .. for each WELL an ACCOUNT": with all four springs, and wells that are near some of them.
+    private static void eachSpringHasItsAccounts() {
+        Steamfield x = Setups.still(10000, 300);
+        for (int block : new int[] {0, 3, 8, 11}) {
+            x.spring(block, 50000, 0);
+        }
+        Setups.drill(x, 5, false, 9);
+        Setups.drill(x, 1, false, 1);
+        Setups.drill(x, 10, false, 1);
+        Setups.drill(x, 9, false, 1);
+        Setups.drill(x, 4, false, 2);
+        x.pass(1);
+        // The well 0 is near none; 1 and 4 are near the block 0, 3 and 4 near 8, 2 near 11.
+        int[] blamed = {4, Steamfield.NONE, 4, 2};
+        for (int spring = 0; spring < 4; spring++) {
+            due("to blame for the spring " + spring, blamed[spring], x.ofSpring(spring, 4));
+        }
+    }
+
     // block(): "IllegalStateException if a month has passed"
     private static void blockAheadOfTheFirstMonth() {
         Check.Made oneMonth = () -> {
@@ -688,6 +707,7 @@ public final class EdgesTest {
         springsGive();
         givingClearsAccounts();
         blameOfTen();
+        eachSpringHasItsAccounts();
         blockAheadOfTheFirstMonth();
         passTo600();
         wouldKeepsAll();
